@@ -19,6 +19,7 @@ public final class PromisesTest {
         PromisesTest test = new PromisesTest();
         test.tapeAndGarden();
         test.faults();
+        test.fullTape();
         test.headsAndRows();
         test.viewsByHour();
         test.viewsOfHeads();
@@ -129,6 +130,8 @@ public final class PromisesTest {
         fault("7", 1, 0);
         fault("Garden hours 1 law 0 odds 0;", 1, 0);
         fault("gardenX", 1, 6);
+        fault("gardenz hours 1 law 0 odds 0;", 1, 0);
+        fault("warden hours 1 law 0 odds 0;", 1, 0);
         fault("garden\thours 1", 1, 6);
         fault("garden\u00e9", 1, 6);
         fault("garden hours 17 law 9", 2, 13);
@@ -167,6 +170,25 @@ public final class PromisesTest {
         fault(r + "say 1 to 0 at 0;row hard 1;", 1, m + 16);
         fault(r + "slug to 0 at 0;row hard 1;", 1, m + 15);
         countedFaults(g, r);
+    }
+
+    /** The tape filled to its last byte, and one that was longer before. */
+    private void fullTape() {
+        String g = "garden hours 1 law 0 odds 0;";
+        fault(g + " ".repeat(600 - g.length()), 0, -1);
+        fault(g + "\n".repeat(599 - g.length()) + ";", 1, 599);
+        fault(g + "row hard" + " ".repeat(590 - g.length()) + "12", 2, 598);
+        fault(g + "x".repeat(600 - g.length()), 1, g.length());
+        fault(g + "row hard " + "0".repeat(591 - g.length()), 2, g.length() + 9);
+        CabbageViews x = new CabbageViews();
+        Check.put(x, "garden hours 1 law 0 odds 11  ;");
+        x.end(27);
+        due("3: the number is cut", x.garden(), -4);
+        due("3: so that the end is the fault", x.fault(0), 1);
+        due("3: at its place", x.fault(1), 27);
+        x.feed(0x3B3B3B3B, 0, 0, 0, 0);
+        x.end(28);
+        due("3: what comes stands behind what is left", x.garden(), 1);
     }
 
     private void countedFaults(String g, String r) {
@@ -667,6 +689,11 @@ public final class PromisesTest {
         due("50: not head 0", x.whom(3, 2), 6);
         due("51: head 1 in hour 0", x.ask(3, 2), 100);
         due("52: one is left", x.leaves(3, 2), 1);
+        // Head 2 takes from heads 1 and 3 in the last hour: then it tells most.
+        x = Check.planted("garden hours 16 law 0 odds 0;row hard 4 hard 4 hard 1 holds 15 hard 4 hard 4;");
+        see(x, 0);
+        due("51: head 2 in hour 16", x.ask(0, 1), 216);
+        due("52: three are left at worst", x.leaves(0, 1), 3);
     }
 
     // ---- promises 56, 57
@@ -764,6 +791,7 @@ public final class PromisesTest {
         due("61: none such ahead of 30", x.slug(-1, 0), -2);
         due("62: undo()", x.undo(), 29);
         due("61: a 30th", x.slug(0, 5), 5);
+        mostEvents();
         CabbageViews none = new CabbageViews();
         due("60: no garden", none.say(1, 0, 0), -2);
         due("61: no garden", none.slug(0, 0), -2);
@@ -775,6 +803,22 @@ public final class PromisesTest {
         due("9: eaten behind what is said", x.view(1, 16), 0);
     }
 
+    /** Eight sayings, four slugs and thirty acts at once. */
+    private void mostEvents() {
+        CabbageViews x = Check.planted("garden hours 3 law 2 odds 0;row hard 4 hard 4 hard 4 hard 4 hard 4 hard 4;"
+                + "say 1 to 0 at 0;".repeat(8) + "slug to 1 at 0;slug to 2 at 1;slug to 3 at 2;slug to 4 at 3;");
+        for (int i = 0; i < 29; i++) due("60: act " + i, x.say(1 + i % 2, 0, 1), 1);
+        due("60: the thirtieth", x.say(2, 5, 2), 1);
+        due("60: the last of one hour stands", x.view(0, 3), 1);
+        due("60: and the thirtieth, too", x.view(5, 3), 2);
+        due("61: the slugs told stand", x.eaten(3), 30);
+        x.image(0);
+        due("63: all", x.anew(), 30);
+        due("63: as told", x.holding(2, 3), 0);
+        x.back(0);
+        due("69: all of them are back", x.holding(2, 3), 32);
+    }
+
     // ---- promises 64, 65
 
     private void summers() {
@@ -784,6 +828,8 @@ public final class PromisesTest {
         due("64: wet hours", x.drawn(1, 0), 4 + 16 + 64);
         due("64: five dry hours", x.drawn(1, 1), 63);
         due("64: nobody holds 2", x.drawn(1, 2), 0);
+        // From seed 0 the first draws are 0, 21468, 9988, 22117, 3498, 16927, 16045, 19741.
+        due("64: seed 0", x.drawn(0, 0), 1 + 128);
         due("64: what 3", x.drawn(1, 3), -2);
         due("64: what -1", x.drawn(1, -1), -2);
         due("64: seed -1", x.drawn(-1, 0), -2);
@@ -931,6 +977,8 @@ public final class PromisesTest {
             }
             x.write(0, 2, 1 + (1L << (width == 0 ? 7 : (8 << width) - 1)));
             due("71: not cut", x.laws(0), -2);
+            x.write(0, 0, 9);
+            x.write(0, 1, 9);
             x.row(0, width, 3);
             due("70: in place of another", x.laws(0), 0);
         }
