@@ -1078,8 +1078,6 @@ public final class CabbageViews {
         final int[] said = new int[MOST_HOURS + 1];
         final int[] gone = new int[MOST_HOURS + 1];
         final int[] open = new int[MOST_HOURS + 1];
-        /** From this hour on nothing is said, nobody is eaten, nobody holds out. */
-        int idleFrom;
 
         void make(Garden garden) {
             for (int hour = 0; hour <= MOST_HOURS; hour++) {
@@ -1087,7 +1085,6 @@ public final class CabbageViews {
                 gone[hour] = 0;
                 open[hour] = 0;
             }
-            idleFrom = 0;
             for (int i = 0; i < garden.events(); i++) {
                 enter(garden.eventView[i], 1 << garden.eventHead[i], garden.eventHour[i]);
             }
@@ -1108,14 +1105,12 @@ public final class CabbageViews {
             } else {
                 said[hour] = heard(said[hour], inHalf(bit, view));
             }
-            idleFrom = Math.max(idleFrom, hour);
         }
 
         private void openFrom(int holds, int bit) {
             for (int hour = Math.max(0, holds); hour <= MOST_HOURS; hour++) {
                 open[hour] |= bit;
             }
-            idleFrom = Math.max(idleFrom, holds);
         }
     }
 
@@ -1172,15 +1167,18 @@ public final class CabbageViews {
         void run() {
             int state = heard(heard(plan.said[0], told), reply) & ~inBoth(plan.gone[0]);
             states[0] = state;
-            boolean settled = false;
+            int calmState = state;
+            int calmTakers = NONE;
             for (int hour = 0; hour < garden.hours && hour < MOST_HOURS; hour++) {
-                // What a dry hour leaves as it was stays so, once nothing more comes from outside.
-                if (!settled && (wet >>> hour & 1) == 0) {
-                    int passed = passTo(takersAt(hour), state);
-                    settled = passed == state && hour >= plan.idleFrom;
-                    state = passed;
+                int takers = takersAt(hour);
+                // Views that the same takers have left as they were need not be passed on again.
+                boolean calm = state == calmState && takers == calmTakers;
+                if (!calm && (wet >>> hour & 1) == 0) {
+                    calmState = state;
+                    state = passTo(takers, state);
+                    calmTakers = state == calmState ? takers : NONE;
                 }
-                state = settled ? state : arrive(hour + 1, state);
+                state = arrive(hour + 1, state);
                 states[hour + 1] = state;
             }
         }
@@ -1546,6 +1544,7 @@ public final class CabbageViews {
     /** Sets of heads that are told a view in the first hour. */
     private static final class Telling {
         private static final int UNKNOWN = -2;
+        private static final int VIEWS = 3;
         private static final int SETS = 1 << MOST_SHARING;
 
         private final Garden garden;
@@ -1553,8 +1552,9 @@ public final class CabbageViews {
         private final Course trial;
         /** Found once for each view, until the garden or an act changes. */
         private final int[] least = {UNKNOWN, UNKNOWN, UNKNOWN};
-        private final int[] brought = new int[SETS];
-        private int broughtView;
+        /** How many heads each set brings, by view; learnt when it is asked for. */
+        private final int[][] brought = new int[VIEWS][SETS];
+        private final boolean[] learnt = new boolean[VIEWS];
 
         Telling(Garden garden, Plan plan, Course trial) {
             this.garden = garden;
@@ -1563,9 +1563,10 @@ public final class CabbageViews {
         }
 
         void forget() {
-            least[1] = UNKNOWN;
-            least[2] = UNKNOWN;
-            broughtView = 0;
+            for (int view = 0; view < VIEWS; view++) {
+                least[view] = UNKNOWN;
+                learnt[view] = false;
+            }
         }
 
         int holdersTold(int view, int set) {
@@ -1654,20 +1655,20 @@ public final class CabbageViews {
                 if ((set & bit) == 0) {
                     int ahead = Integer.bitCount(set);
                     long orders = factorial(ahead) * factorial(garden.heads - 1 - ahead);
-                    sum += orders * (brought[set | bit] - brought[set]);
+                    sum += orders * (brought[view][set | bit] - brought[view][set]);
                 }
             }
             return sum;
         }
 
         private void learnBrought(int view) {
-            if (broughtView == view) {
+            if (learnt[view]) {
                 return;
             }
             for (int set = 0; set <= garden.everyone() && set < SETS; set++) {
-                brought[set] = Integer.bitCount(holdersTold(view, set));
+                brought[view][set] = Integer.bitCount(holdersTold(view, set));
             }
-            broughtView = view;
+            learnt[view] = true;
         }
     }
 
