@@ -150,6 +150,12 @@ public final class ActsBoundaryTest {
         for (int h = 0; h < 12; h++) twelve.say(1, h, 0);
         mean(twelve, 7, 12, 1);
         mean(plant(BARE), 0, 0, 1);
+        // Along a row: one more for each dry hour, until all eight hold it.
+        CabbageViews row = plant("garden hours 9 law 0 odds 5;row" + " hard 1".repeat(8) + ";say 1 to 0 at 0;");
+        mean(row, 6, 9, 2);
+        mean(row, 7, 1279, 256);
+        mean(row, 0, 3, 2);
+        mean(row, 1, 2, 1);
         bounds.promise(59, "-2: there are none such");
         for (int hours = 1; hours <= 16; hours++) {
             CabbageViews x = pair(hours, 5);

@@ -169,6 +169,8 @@ public final class StoryBoundaryTest {
                     + ";say 1 to 0 at 0;");
             due("holds " + holds + ": it takes 1 from that hour to the next",
                     x.when(1, 1), holds < 16 ? holds + 1 : -1);
+            CabbageViews y = plant("garden hours 16 law 0 odds 0;row hard 1 holds " + holds + " hard 1;say 1 to 1 at 0;");
+            due("holds " + holds + " of head 0: it takes 1 then", y.when(0, 1), holds < 16 ? holds + 1 : -1);
         }
         CabbageViews x = plant("garden hours 3 law 0 odds 0;row hard 1 hard 1 holds 3;say 1 to 0 at 0;"
                 + "say 2 to 1 at 1;slug to 1 at 3;");
