@@ -27,6 +27,7 @@ public final class ActsBoundaryTest {
         test.luck();
         test.rating();
         test.counting();
+        test.orderOfRefusals();
         test.images();
         test.goingBack();
         test.rows();
@@ -304,6 +305,13 @@ public final class ActsBoundaryTest {
                 due("drawn(" + row[0] + ", 1), odds " + odds, x.drawn(row[0], 1), lasting);
             }
         }
+        bounds.term(64, "In a WET hour nobody takes any");
+        for (int law = 0; law < 4; law++) {
+            CabbageViews wet = plant("garden hours 5 law " + law + " odds 10;row hard 1 hard 1 hard 1;say 1 to 1 at 0;"
+                    + "say 2 to 2 at 3;");
+            due("drawn(3, 1), law " + law, wet.drawn(3, 1), 2);
+            due("drawn(3, 2), law " + law + ", what is said is held", wet.drawn(3, 2), 4);
+        }
         bounds.term(64, "HOUR by HOUR ahead of the last a draw: below odds it is WET");
         for (int hours = 1; hours <= 16; hours++) {
             due("drawn(7, 0), all wet, hours " + hours, pair(hours, 10).drawn(7, 0), (1 << hours) - 1);
@@ -417,6 +425,42 @@ public final class ActsBoundaryTest {
         bounds.only("count, no garden", none::count, 0, 10, -1);
     }
 
+    /** Where a call could be refused by two numbers, -2 is the one. */
+    private void orderOfRefusals() {
+        String words = "-2 (-1,000) is asked ahead of -5, -6";
+        CabbageViews none = no();
+        bounds.term(62, words);
+        due("undo(), no garden and no acts", none.undo(), -2);
+        bounds.term(69, words);
+        due("back(3), nothing in any", none.back(3), -2);
+        due("back(-1), nothing in any", none.back(-1), -2);
+        bounds.term(71, words);
+        due("write(4, 0, 0), nothing in any", none.write(4, 0, 0), -2);
+        bounds.term(72, words);
+        due("paste(4, 0, 0, 0, 0), nothing in any", none.paste(4, 0, 0, 0, 0), -2);
+        due("paste(0, 0, 4, 0, 0), nothing in any", none.paste(0, 0, 4, 0, 0), -2);
+        bounds.term(50, words);
+        due("whom(0, 1), no garden and nothing in it", none.whom(0, 1), -2);
+        bounds.term(51, words);
+        due("ask(0, 1), no garden and nothing in it", none.ask(0, 1), -2);
+        bounds.term(52, words);
+        due("leaves(0, 1), no garden and nothing in it", none.leaves(0, 1), -2);
+        bounds.term(53, words);
+        due("laws(0), no garden and nothing in it", none.laws(0), -2);
+        CabbageViews full = plant(HARD);
+        for (int i = 0; i < 30; i++) full.say(1, 0, 0);
+        bounds.term(60, words);
+        due("say(3, 0, 0), a 31st", full.say(3, 0, 0), -2);
+        due("say(1, 3, 0), a 31st", full.say(1, 3, 0), -2);
+        due("say(1, 0, 5), a 31st", full.say(1, 0, 5), -2);
+        bounds.term(61, words);
+        due("slug(3, 0), a 31st", full.slug(3, 0), -2);
+        due("slug(0, 5), a 31st", full.slug(0, 5), -2);
+        bounds.term(66, words);
+        due("rate(3, 1) with acts", full.rate(3, 1), -2);
+        due("rate(0, 5) with acts", full.rate(0, 5), -2);
+    }
+
     private void images() {
         bounds.promise(68, "IMAGE k (0 .. 2) keeps the GARDEN, and acts: 0. -2: no such k");
         CabbageViews x = plant(HARD + "say 1 to 0 at 0;");
@@ -492,6 +536,13 @@ public final class ActsBoundaryTest {
         bounds.refusedOutside("row(.., 0, -1)", s -> x.row(s, 0, -1), 0, 3, -2);
         bounds.refusedOutside("row(0, .., -1)", w -> x.row(0, w, -1), 0, 3, -2);
         due("row(4, 0, 61)", x.row(4, 0, 61), -2);
+        bounds.term(70, "SLOTS 0 .. 3 have rows of numbers of 1, 2, 4 or 8 bytes (WIDTH 0 .. 3), at most 60, or nothing");
+        CabbageViews four = no();
+        for (int s = 0; s < 4; s++) {
+            due("write(" + s + ", 0, 0): nothing", four.write(s, 0, 0), -6);
+            due("row(" + s + ", " + s + ", 60)", four.row(s, s, 60), 0);
+            due("write(" + s + ", 59, 0)", four.write(s, 59, 0), 0);
+        }
         bounds.promise(70, "-3, and the SLOT stays: n is below 0");
         for (int n : new int[] {-1, -2, -60, -256, Bounds.LEAST}) due("row(0, 0, " + n + ")", x.row(0, 0, n), -3);
         due("write(0, 0, 0): it has nothing still", x.write(0, 0, 0), -6);

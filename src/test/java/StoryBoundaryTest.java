@@ -9,6 +9,12 @@ public final class StoryBoundaryTest {
     private static final String BARE = "garden hours 3 law 0 odds 0;";
     private static final String ONE = "garden hours 1 law 0 odds 0;";
 
+    private static final String[] LAWS = {
+        "if they are more by its hard at least (else it keeps its own), by LAW, 0: so.",
+        "1: so, but NEIGHBOURS in its ROW count twice (more by its hard of what is so counted).",
+        "2: so, but only if it has none.",
+        "3: so, but its own VIEW (1 or 2) counts as one NEIGHBOUR's."};
+
     private final Bounds bounds = new Bounds();
 
     private StoryBoundaryTest() throws Exception {
@@ -20,6 +26,7 @@ public final class StoryBoundaryTest {
         test.eatenHourByHour();
         test.moreByHard();
         test.holdingOut();
+        test.allAtOnce();
         test.viewAndHolding();
         test.eatenAndTurned();
         test.sways();
@@ -153,7 +160,7 @@ public final class StoryBoundaryTest {
                 due(told, cross(law, 1, own, around).pull(3, 0), lead);
                 bounds.promise(31, "HEADS, not eaten, of whose NEIGHBOURS (as pull()) neither more hold 1 nor more 2");
                 due(told, cross(law, 1, own, around).tied(0) >> 3 & 1, lead == 0 ? 1 : 0);
-                bounds.term(9, "if they are more by its hard at least (else it keeps its own), by LAW, 0: so.");
+                bounds.term(9, LAWS[law]);
                 for (int hard = 1; hard <= 4; hard++) {
                     due("hard " + hard + ", " + told, cross(law, hard, own, around).view(3, 1),
                             takes(law, hard, own, lead));
@@ -175,6 +182,19 @@ public final class StoryBoundaryTest {
         CabbageViews x = plant("garden hours 3 law 0 odds 0;row hard 1 hard 1 holds 3;say 1 to 0 at 0;"
                 + "say 2 to 1 at 1;slug to 1 at 3;");
         story(x, "10", "12", "22", "2x");
+    }
+
+    private void allAtOnce() {
+        bounds.term(9, "From an HOUR to the next all HEADS at once");
+        // One after the other, head 1 would have taken from head 0 what that one took in the same hour.
+        story(plant("garden hours 2 law 0 odds 0;row hard 1 hard 1 hard 1;say 1 to 0 at 0;"), "100", "110", "111");
+        story(plant("garden hours 2 law 0 odds 0;row hard 1 hard 1 hard 1;say 1 to 2 at 0;"), "001", "011", "111");
+        story(plant("garden hours 2 law 0 odds 0;row hard 1 hard 1;say 1 to 0 at 0;say 2 to 1 at 0;"), "12", "21", "12");
+        bounds.term(9, "HOURS 0 .. hours");
+        for (int hours = 1; hours <= 16; hours++) {
+            CabbageViews x = plant("garden hours " + hours + " law 0 odds 0;row hard 1;say 1 to 0 at 0;");
+            bounds.only("view(0, ..) of hours " + hours, t -> x.view(0, t), 0, hours, -2);
+        }
     }
 
     // ---- promises 9 to 12

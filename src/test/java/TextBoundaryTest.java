@@ -345,10 +345,20 @@ public final class TextBoundaryTest {
             if (odds <= 10) sound(text, 1);
             else faulty(text, 2, 27);
         }
+        bounds.term(5, "2 a number out of its bounds");
+        faulty("garden hours 17 law 0 odds 0;", 2, 13);
+        faulty("garden hours 1 law 4 odds 0;", 2, 19);
+        faulty("garden hours 1 law 0 odds 11;", 2, 26);
+        bounds.term(4, "hours 1 .. 16, law 0 .. 3, odds 0 .. 10");
         CabbageViews x = plant("garden hours 16 law 3 odds 10;");
         due("count(0), hours", x.count(0), 16);
         due("count(1), law", x.count(1), 3);
         due("count(2), odds", x.count(2), 10);
+        CabbageViews least = plant("garden hours 1 law 0 odds 0;");
+        due("count(0), hours", least.count(0), 1);
+        due("count(1), law", least.count(1), 0);
+        due("count(2), odds", least.count(2), 0);
+        bounds.term(5, "numbers (digits)");
         faulty("garden hours -1 law 0 odds 0;", 1, 13);
         faulty("garden hours 1 law -1 odds 0;", 1, 19);
     }
@@ -421,9 +431,11 @@ public final class TextBoundaryTest {
         faulty("hours 9 law 0 odds 0;", 1, 0);
         faulty(";" + GARDEN, 1, 0);
         faulty("1" + GARDEN, 1, 0);
+        bounds.term(5, "All row LINES stand ahead of all say, slug LINES");
         faulty(TWO_HEADS + SAY + ROW, 1, TWO_HEADS.length() + SAY.length());
         faulty(TWO_HEADS + SLUG + ROW, 1, TWO_HEADS.length() + SLUG.length());
         sound(TWO_HEADS + SLUG + SAY + SLUG + SAY, 6);
+        bounds.term(5, "LINE: garden hours N law N odds N | row {D} | say V to H at N | slug to H at N");
         faulty(GARDEN + ";", 1, 28);
         faulty(GARDEN + "1;", 1, 28);
         for (String word : new String[] {"hours", "law", "odds", "hard", "holds", "to", "at", "rows", "ro", "sluggish"}) {
@@ -532,6 +544,12 @@ public final class TextBoundaryTest {
         due("near(11) of twelve", full.near(11), 1 << 10 | 1 << 3);
         due("near(7), the 8th of its row", full.near(7), 1 << 6);
         due("near(8): the row ahead ends with another place", full.near(8), 1 | 1 << 9);
+        bounds.term(7, "those at its place (counted from 0) in the ROW ahead and in the one behind, if there are such");
+        due("near(2): the next row ends ahead of its place", x.near(2), 2);
+        due("near(5): the row ahead ends ahead of its place", x.near(5), 16 + 128);
+        due("near(8): so does that one", x.near(8), 128);
+        due("near(6): there is no row behind the last", x.near(6), 16 + 128);
+        due("near(0): there is no row ahead of the first", x.near(0), 2 + 8);
         bounds.promise(7, "-2: there is none such");
         bounds.only("near", x::near, 0, 8, -2);
         bounds.refusedOutside("near of no garden", h -> new CabbageViews().near(h), 0, -1, -2);

@@ -37,6 +37,7 @@ public final class ToldBoundaryTest {
         test.lawsSeen();
         test.byLaws();
         test.resting();
+        test.harder();
         test.getting();
         test.bounds.finish(39, 57);
     }
@@ -176,6 +177,12 @@ public final class ToldBoundaryTest {
         share(three, 1, 2, 4, 3);
         share(three, 2, 1, 5, 6);
         share(plant(ONE + "row hard 4;"), 0, 2, 1, 1);
+        bounds.term(44, "HEADS come in an order, each has what the set brings more by it (below 0, too), each order is as likely:"
+                + " the mean");
+        // Nobody sways head 0 (hard 2). It brings both if it comes first, itself if second; head 1 itself, or nothing.
+        CabbageViews two = plant("garden hours 2 law 0 odds 0;row hard 2 hard 1;");
+        share(two, 0, 1, 3, 2);
+        share(two, 1, 1, 1, 2);
         bounds.term(44, "(what is held with none TOLD is nobody's)");
         share(plant(PAIR + "say 1 to 0 at 0;"), 0, 1, 0, 1);
         share(plant(PAIR + "say 1 to 0 at 0;"), 1, 1, 0, 1);
@@ -228,6 +235,11 @@ public final class ToldBoundaryTest {
     }
 
     private void samples() {
+        bounds.term(45, "it is for 1, if more of it hold 1 than 2");
+        sample(plant(ONE + "row hard 4 hard 4;say 1 to 0 at 0;say 2 to 1 at 0;"), 0, 2, 0, 1);
+        sample(plant(ONE + "row hard 4 hard 4;say 1 to 0 at 0;"), 0, 2, 1, 1);
+        sample(plant(ONE + "row hard 4 hard 4;"), 0, 2, 0, 1);
+        sample(plant(ONE + "row hard 4 hard 4;say 2 to 0 at 0;"), 0, 1, 0, 1);
         bounds.promise(45, "SAMPLE (VII) of n (1 .. as many as are not eaten) in an HOUR: the chance that it is for 1, above, below");
         CabbageViews x = plant(HARD + "say 1 to 0 at 0;say 2 to 1 at 1;slug to 2 at 2;slug to 1 at 3;slug to 0 at 4;");
         sample(x, 0, 1, 1, 3);
@@ -294,6 +306,9 @@ public final class ToldBoundaryTest {
     // ---- promises 47 to 49
 
     private void worth() {
+        bounds.term(47, "It is worth the HEADS that hold 1 on the last HOUR less those that hold 2; each as well as can be");
+        due("worth(), what is said in truth counts, too", plant(ONE + "row hard 4;row hard 4;row hard 4;"
+                + "say 1 to 1 at 1;say 1 to 2 at 1;").worth(), 1);
         bounds.term(47, "(the same one, too: it holds 2 then)");
         due("worth(), one head", plant(ONE + "row hard 4;").worth(), -1);
         due("worth(), two heads that nobody sways", plant(ONE + "row hard 4 hard 4;").worth(), -1);
@@ -572,6 +587,28 @@ public final class ToldBoundaryTest {
         due("by gets() of <" + text + ">", found, pairs);
         int turned = (pairs & 2) << 1 | (pairs & 4) >> 1 | pairs & 9;
         due("rests(1, 0) of <" + text + ">", x.rests(1, 0), turned);
+    }
+
+    private void harder() {
+        bounds.term(57, "Each of two HEADS is 1 harder, or not (all else as now)");
+        // Head 3 holds 2 amid four of 1: it is hard 4 and takes 1, but does not if it is 1 harder.
+        String cross = "row hard 4 hard 4;row hard 4 hard 4 hard 4;row hard 4 hard 4;say 2 to 3 at 0;"
+                + "say 1 to 1 at 0;say 1 to 2 at 0;say 1 to 4 at 0;say 1 to 6 at 0;";
+        CabbageViews x = plant("garden hours 3 law 0 odds 0;" + cross);
+        due("gets(3, 0, 0, 0), hard 4", x.gets(3, 0, 0, 0), 4);
+        due("gets(3, 0, 1, 0), hard 5", x.gets(3, 0, 1, 0), 3);
+        due("head(3, 0), not in truth", x.head(3, 0), 4);
+        due("view(3, 1), not in truth", x.view(3, 1), 1);
+        bounds.term(57, "It GETS 2 for each HOUR from 1 on (the last one, too) in which it holds the VIEW that it held in the HOUR"
+                + " ahead (1 or 2), less 3, if it is");
+        CabbageViews y = plant(ONE + "row hard 4 hard 4;say 1 to 0 at 0;");
+        due("gets(0, 1, 0, 0), the last hour", y.gets(0, 1, 0, 0), 2);
+        due("gets(0, 1, 1, 0), less 3", y.gets(0, 1, 1, 0), -1);
+        due("gets(1, 0, 0, 0), none is no view", y.gets(1, 0, 0, 0), 0);
+        bounds.term(56, "REST: neither GETS more by the other choice alone");
+        due("rests(3, 0): 4 is more than 3", x.rests(3, 0), 1);
+        // In five hours it gets 2 an hour from hour 2 on, or in all five less 3.
+        due("rests(3, 0) in five hours: 8 is more than 7", plant("garden hours 5 law 0 odds 0;" + cross).rests(3, 0), 1);
     }
 
     private void getting() {
