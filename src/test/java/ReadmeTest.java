@@ -19,7 +19,7 @@ public final class ReadmeTest {
     private static final Path TESTS = Path.of("src/test/java");
     private static final Path RUN = Path.of(".ci/run");
     /** A call with its answer behind it, such as: x.count(4); // 2: two heads. */
-    private static final Pattern ANSWERED = Pattern.compile("(\\s*)(x\\.\\w+\\([^;]*\\));\\s*// (-?\\d+)(:.*)?");
+    private static final Pattern ANSWERED = Pattern.compile("((?:x\\.\\w+|put)\\(.*\\));\\s*// (-?\\d+)(:.*)?");
     private static final Pattern CALL = Pattern.compile("`(\\w+)\\(([^)`]*)\\)`");
     private static final Pattern FACE = Pattern.compile("public (?:int|long) (\\w+)\\(([^)]*)\\);");
 
@@ -87,7 +87,8 @@ public final class ReadmeTest {
     }
 
     private static String asked(Matcher m) {
-        return "ReadmeTest.Shown.due(\"" + m.group(2) + "\", " + m.group(2) + ", " + m.group(3) + "L);";
+        String call = m.group(1);
+        return "ReadmeTest.Shown.due(\"" + call.replace("\"", "'") + "\", " + call + ", " + m.group(2) + "L);";
     }
 
     private void runProgram(Path made, String program) throws Exception {
